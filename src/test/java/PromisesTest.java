@@ -507,6 +507,10 @@ public final class PromisesTest {
         x.put(1, 0, 0);
         Check.due("14: whatever was told ahead", x.best(), 100);
         slots("14", x, 0, 0, NONE, NONE);
+        x.like(0, 0, 0);
+        x.season(2, 3);
+        Check.due("14: six slots of nobody", x.best(), 0);
+        slots("14", x, NONE, NONE, NONE, NONE, NONE, NONE, NONE, NONE, NONE, NONE, NONE, NONE);
     }
 
     private static void bestAcrossEvenings() {
@@ -668,6 +672,9 @@ public final class PromisesTest {
         x.piece(0, 20, 4, false);
         x.piece(0, 10, 1, true);
         Check.due("18: fewest ahead of the first row", x.row(0, 30), 5);
+        rowIs("18", x, 2, 3);
+        x.piece(0, 10, 1, true);
+        Check.due("18: with another main too", x.row(0, 30), 5);
         rowIs("18", x, 2, 3);
         SeasonOfHours y = withModes(1);
         y.piece(0, 10, 0, true);
