@@ -27,6 +27,12 @@ final class Check {
         due(call, got ? 1 : 0, 0);
     }
 
+    static void refused(String sentence, SeasonOfHours x, Call... calls) {
+        for (Call call : calls) {
+            due(sentence + ": " + call.text(), call.on(x), call.refusal());
+        }
+    }
+
     static void fault(String text) {
         wrong++;
         if (wrong <= MOST_PRINTED) {

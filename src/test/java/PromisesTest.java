@@ -39,45 +39,13 @@ public final class PromisesTest {
         Check.end();
     }
 
-    /** Modes 0 .. n - 1 of all hours that share no note. */
-    private static SeasonOfHours withModes(int n) {
-        SeasonOfHours x = new SeasonOfHours();
-        for (int i = 0; i < n; i++) {
-            x.mode(3 << 2 * i, 15);
-        }
-        return x;
-    }
-
-    private static SeasonOfHours withArtists(int modes, int... ranks) {
-        SeasonOfHours x = withModes(modes);
-        for (int rank : ranks) {
-            x.artist(rank);
-        }
-        return x;
-    }
-
-    private static void slots(String run, SeasonOfHours x, int... artistsAndModes) {
-        for (int i = 0; i < artistsAndModes.length / 2; i++) {
-            Check.due(run + ": artist at " + i, x.at(i, 0), artistsAndModes[2 * i]);
-            Check.due(run + ": mode at " + i, x.at(i, 1), artistsAndModes[2 * i + 1]);
-        }
-    }
-
-    private static void rowIs(String run, SeasonOfHours x, int... pieces) {
-        Check.due(run + ": count(6)", x.count(6), pieces.length);
-        for (int i = 0; i < pieces.length; i++) {
-            Check.due(run + ": told(" + i + ")", x.told(i), pieces[i]);
-        }
-        Check.due(run + ": told behind the end", x.told(pieces.length), NONE);
-    }
-
     private static void newObject() {
         SeasonOfHours x = new SeasonOfHours();
         int[] counts = {0, 0, 1, 0, 0, 0, 0};
         for (int what = 0; what < counts.length; what++) {
             Check.due("1: count(" + what + ")", x.count(what), counts[what]);
         }
-        slots("1", x, NONE, NONE);
+        Seasons.slots("1", x, NONE, NONE);
         Check.due("1: wrong", x.wrong(), 0);
         Check.due("1: best", x.best(), 0);
         Check.due("1: mend", x.mend(), 0);
@@ -125,7 +93,7 @@ public final class PromisesTest {
     }
 
     private static void like() {
-        SeasonOfHours x = withArtists(2, 5);
+        SeasonOfHours x = Seasons.withArtists(2, 5);
         int[][] refused = {{-1, 0, 1}, {1, 0, 1}, {0, -1, 1}, {0, 2, 1}, {0, 0, -1}, {0, 0, 101}, {MAX, 0, 1},
             {MIN, 0, 1}, {0, MAX, 1}, {0, MIN, 1}, {0, 0, MAX}, {0, 0, MIN}};
         for (int[] r : refused) {
@@ -134,17 +102,17 @@ public final class PromisesTest {
         Check.due("4: at first nothing is liked", x.best(), 0);
         Check.yes("4: like 100", x.like(0, 1, 100));
         Check.due("4: now it is", x.best(), 100);
-        slots("4", x, 0, 1);
+        Seasons.slots("4", x, 0, 1);
         Check.yes("4: like 0", x.like(0, 1, 0));
         Check.due("4: a liking of 0 is not played", x.wrong(), 30);
         Check.due("4: nor is it best", x.best(), 0);
-        slots("4", x, NONE, NONE);
+        Seasons.slots("4", x, NONE, NONE);
         Check.yes("4: like 1", x.like(0, 0, 1));
         Check.due("4: 1 is played", x.best(), 1);
     }
 
     private static void rival() {
-        SeasonOfHours x = withArtists(2, 5, 5, 5);
+        SeasonOfHours x = Seasons.withArtists(2, 5, 5, 5);
         int[][] refused = {{0, 0}, {2, 2}, {-1, 0}, {0, -1}, {3, 0}, {0, 3}, {MAX, 0}, {0, MIN}, {-1, -1}};
         for (int[] r : refused) {
             Check.no("5: rival(" + r[0] + ", " + r[1] + ")", x.rival(r[0], r[1], true));
@@ -168,7 +136,7 @@ public final class PromisesTest {
     }
 
     private static void ill() {
-        SeasonOfHours x = withArtists(1, 5, 6);
+        SeasonOfHours x = Seasons.withArtists(1, 5, 6);
         for (int artist : new int[] {-1, 2, MIN, MAX}) {
             Check.no("6: ill(" + artist + ")", x.ill(artist, true));
         }
@@ -210,7 +178,7 @@ public final class PromisesTest {
                 Check.due("8: its slots", x.count(2), good ? e * s : 1);
             }
         }
-        SeasonOfHours x = withArtists(1, 5);
+        SeasonOfHours x = Seasons.withArtists(1, 5);
         x.like(0, 0, 7);
         Check.no("8: a product that wraps", x.season(65536, 65536));
         Check.no("8: least", x.season(MIN, 1));
@@ -269,7 +237,7 @@ public final class PromisesTest {
     }
 
     private static void count() {
-        SeasonOfHours x = withArtists(3, 5, 5);
+        SeasonOfHours x = Seasons.withArtists(3, 5, 5);
         x.season(2, 2);
         x.like(0, 0, 30);
         x.like(1, 2, 4);
@@ -294,7 +262,7 @@ public final class PromisesTest {
     }
 
     private static void put() {
-        SeasonOfHours x = withArtists(2, 5, 5);
+        SeasonOfHours x = Seasons.withArtists(2, 5, 5);
         x.season(1, 2);
         int[][] refused = {{-1, 0, 0}, {2, 0, 0}, {0, 2, 0}, {0, -2, 0}, {0, 0, 2}, {0, 0, -1}, {-1, NONE, 0},
             {2, NONE, 0}, {MIN, 0, 0}, {MAX, 0, 0}, {0, MIN, 0}, {0, MAX, 0}, {0, 0, MIN}, {0, 0, MAX}};
@@ -302,31 +270,31 @@ public final class PromisesTest {
         for (int[] r : refused) {
             Check.no("11: put(" + r[0] + ", " + r[1] + ", " + r[2] + ")", x.put(r[0], r[1], r[2]));
         }
-        slots("11", x, 1, 1, NONE, NONE);
+        Seasons.slots("11", x, 1, 1, NONE, NONE);
         Check.yes("11: what is not good", x.put(1, 1, 1));
-        slots("11", x, 1, 1, 1, 1);
+        Seasons.slots("11", x, 1, 1, 1, 1);
         Check.yes("11: another", x.put(1, 0, 1));
-        slots("11", x, 1, 1, 0, 1);
+        Seasons.slots("11", x, 1, 1, 0, 1);
         for (int mode : new int[] {0, -1, 2, 99, MIN, MAX}) {
             x.put(0, 1, 1);
             Check.yes("11: nobody, mode " + mode, x.put(0, NONE, mode));
-            slots("11", x, NONE, NONE, 0, 1);
+            Seasons.slots("11", x, NONE, NONE, 0, 1);
         }
         x.ill(0, true);
         x.like(0, 1, 0);
         x.set(0, 0);
-        slots("11: stays as told", x, NONE, NONE, 0, 1);
+        Seasons.slots("11: stays as told", x, NONE, NONE, 0, 1);
     }
 
     private static void at() {
-        SeasonOfHours x = withArtists(3, 5, 5);
+        SeasonOfHours x = Seasons.withArtists(3, 5, 5);
         x.season(1, 3);
         x.put(1, 1, 2);
         int[][] none = {{-1, 0}, {3, 0}, {0, 2}, {0, -1}, {3, 1}, {1, MAX}, {1, MIN}, {MIN, 0}, {MAX, 1}, {9, 9}};
         for (int[] r : none) {
             Check.due("12: at(" + r[0] + ", " + r[1] + ")", Check.at(x, r[0], r[1]), Check.THREW);
         }
-        slots("12", x, NONE, NONE, 1, 2, NONE, NONE);
+        Seasons.slots("12", x, NONE, NONE, 1, 2, NONE, NONE);
         x.season(1, 1);
         Check.due("12: a slot that is gone", Check.at(x, 1, 0), Check.THREW);
     }
@@ -358,7 +326,7 @@ public final class PromisesTest {
     }
 
     private static void wrongInEvening() {
-        SeasonOfHours x = withArtists(4, 5, 5, 6, 4);
+        SeasonOfHours x = Seasons.withArtists(4, 5, 5, 6, 4);
         x.season(2, 3);
         for (int i = 0; i < 16; i++) {
             x.like(i / 4, i % 4, 1);
@@ -451,7 +419,7 @@ public final class PromisesTest {
     }
 
     private static void modeTwiceAheadOfRank() {
-        SeasonOfHours x = withArtists(1, 5, 4);
+        SeasonOfHours x = Seasons.withArtists(1, 5, 4);
         x.season(1, 2);
         x.like(0, 0, 1);
         x.like(1, 0, 1);
@@ -461,43 +429,43 @@ public final class PromisesTest {
     }
 
     private static void bestOrdinary() {
-        SeasonOfHours x = withArtists(2, 5, 4);
+        SeasonOfHours x = Seasons.withArtists(2, 5, 4);
         x.season(1, 2);
         x.like(0, 0, 50);
         x.like(1, 1, 40);
         Check.due("14: the less rank first", x.best(), 90);
-        slots("14", x, 1, 1, 0, 0);
+        Seasons.slots("14", x, 1, 1, 0, 0);
         Check.due("14: good", x.wrong(), 0);
         x.like(1, 1, 0);
         x.like(1, 0, 60);
         Check.due("14: a mode once", x.best(), 60);
-        slots("14", x, 1, 0, NONE, NONE);
+        Seasons.slots("14", x, 1, 0, NONE, NONE);
         x.season(2, 1);
         Check.due("14: a mode in two evenings", x.best(), 110);
-        slots("14", x, 0, 0, 1, 0);
+        Seasons.slots("14", x, 0, 0, 1, 0);
         x.ill(0, true);
         Check.due("14: without the ill one", x.best(), 60);
-        slots("14", x, 1, 0, NONE, NONE);
+        Seasons.slots("14", x, 1, 0, NONE, NONE);
     }
 
     private static void bestTies() {
-        SeasonOfHours x = withArtists(2, 5, 5);
+        SeasonOfHours x = Seasons.withArtists(2, 5, 5);
         x.season(1, 3);
         for (int i = 0; i < 4; i++) {
             x.like(i / 2, i % 2, 8);
         }
         Check.due("14: all alike", x.best(), 16);
-        slots("14: less artist, then less mode, nobody last", x, 0, 0, 1, 1, NONE, NONE);
+        Seasons.slots("14: less artist, then less mode, nobody last", x, 0, 0, 1, 1, NONE, NONE);
         x.like(0, 0, 0);
         Check.due("14: still", x.best(), 16);
-        slots("14: artist goes ahead of mode", x, 0, 1, 1, 0, NONE, NONE);
+        Seasons.slots("14: artist goes ahead of mode", x, 0, 1, 1, 0, NONE, NONE);
         x.like(1, 0, 0);
         Check.due("14: one mode left", x.best(), 8);
-        slots("14: nobody is greater than all", x, 0, 1, NONE, NONE, NONE, NONE);
+        Seasons.slots("14: nobody is greater than all", x, 0, 1, NONE, NONE, NONE, NONE);
     }
 
     private static void bestNeverEmptyHanded() {
-        SeasonOfHours x = withArtists(1, 5);
+        SeasonOfHours x = Seasons.withArtists(1, 5);
         x.season(1, 2);
         x.put(0, 0, 0);
         x.put(1, 0, 0);
@@ -506,80 +474,80 @@ public final class PromisesTest {
         x.like(0, 0, 100);
         x.put(1, 0, 0);
         Check.due("14: whatever was told ahead", x.best(), 100);
-        slots("14", x, 0, 0, NONE, NONE);
+        Seasons.slots("14", x, 0, 0, NONE, NONE);
         x.like(0, 0, 0);
         x.season(2, 3);
         Check.due("14: six slots of nobody", x.best(), 0);
-        slots("14", x, NONE, NONE, NONE, NONE, NONE, NONE, NONE, NONE, NONE, NONE, NONE, NONE);
+        Seasons.slots("14", x, NONE, NONE, NONE, NONE, NONE, NONE, NONE, NONE, NONE, NONE, NONE, NONE);
     }
 
     private static void bestAcrossEvenings() {
-        SeasonOfHours x = withArtists(6, 9, 9, 9, 9, 9, 9);
+        SeasonOfHours x = Seasons.withArtists(6, 9, 9, 9, 9, 9, 9);
         x.season(2, 3);
         for (int i = 0; i < 36; i++) {
             x.like(i / 6, i % 6, 100);
         }
         Check.due("14: the greatest worth", x.best(), 600);
-        slots("14", x, 0, 0, 1, 1, 2, 2, 3, 0, 4, 1, 5, 2);
+        Seasons.slots("14", x, 0, 0, 1, 1, 2, 2, 3, 0, 4, 1, 5, 2);
         x.season(3, 2);
         Check.due("14: in three evenings", x.best(), 600);
-        slots("14", x, 0, 0, 1, 1, 2, 0, 3, 1, 4, 0, 5, 1);
+        Seasons.slots("14", x, 0, 0, 1, 1, 2, 0, 3, 1, 4, 0, 5, 1);
         x.rival(0, 1, true);
         x.rival(2, 3, true);
         Check.due("14: with rivals", x.best(), 600);
-        slots("14", x, 0, 0, 2, 1, 1, 0, 3, 1, 4, 0, 5, 1);
+        Seasons.slots("14", x, 0, 0, 2, 1, 1, 0, 3, 1, 4, 0, 5, 1);
         x.set(0, 0);
         Check.due("14: modes that share nothing", x.best(), 600);
     }
 
     private static void mend() {
-        SeasonOfHours x = withArtists(3, 3, 5, 7);
+        SeasonOfHours x = Seasons.withArtists(3, 3, 5, 7);
         x.season(1, 3);
         for (int i = 0; i < 9; i++) {
             x.like(i / 3, i % 3, 10 + i);
         }
         x.put(1, 1, 0);
         Check.due("15: a good one stays", x.mend(), 0);
-        slots("15", x, NONE, NONE, 1, 0, NONE, NONE);
+        Seasons.slots("15", x, NONE, NONE, 1, 0, NONE, NONE);
         x.ill(1, true);
         Check.due("15: one slot", x.mend(), 1);
-        slots("15: of most worth", x, NONE, NONE, 2, 2, NONE, NONE);
+        Seasons.slots("15: of most worth", x, NONE, NONE, 2, 2, NONE, NONE);
         x.ill(1, false);
         x.put(0, 2, 0);
         x.put(1, 2, 0);
         x.put(2, 2, 0);
         Check.due("15: thrice the same", x.mend(), 2);
-        slots("15: of equal worth the less mode first", x, 0, 1, 1, 2, 2, 0);
+        Seasons.slots("15: of equal worth the less mode first", x, 0, 1, 1, 2, 2, 0);
         Check.due("15: good now", x.wrong(), 0);
         x.like(1, 2, 0);
         Check.due("15: another mode of it would clash", x.mend(), 1);
-        slots("15", x, 0, 1, NONE, NONE, 2, 0);
+        Seasons.slots("15", x, 0, 1, NONE, NONE, 2, 0);
     }
 
     private static void mendTies() {
-        SeasonOfHours x = withArtists(2, 5, 5);
+        SeasonOfHours x = Seasons.withArtists(2, 5, 5);
         x.season(1, 2);
         x.like(0, 0, 5);
         x.like(1, 0, 5);
         x.put(0, 1, 0);
         x.put(1, 1, 0);
         Check.due("15: either slot", x.mend(), 1);
-        slots("15: the less artist first, nobody last", x, 1, 0, NONE, NONE);
+        Seasons.slots("15: the less artist first, nobody last", x, 1, 0, NONE, NONE);
         x.like(0, 1, 90);
         x.like(1, 1, 1);
         x.put(0, 1, 1);
         x.put(1, 1, 0);
         Check.due("15: fewest changes ahead of worth", x.mend(), 1);
-        slots("15: then worth", x, 0, 1, 1, 0);
-        SeasonOfHours y = withArtists(1, 5);
+        Seasons.slots("15: then worth", x, 0, 1, 1, 0);
+        SeasonOfHours y = Seasons.withArtists(1, 5);
         y.put(0, 0, 0);
         Check.due("15: nobody can come", y.mend(), 1);
-        slots("15", y, NONE, NONE);
+        Seasons.slots("15", y, NONE, NONE);
         Check.due("15: nobody is good", y.mend(), 0);
     }
 
     private static void piece() {
-        SeasonOfHours x = withModes(2);
+        SeasonOfHours x = Seasons.withModes(2);
         int[][] refused = {{-1, 1, 1}, {2, 1, 1}, {0, 0, 1}, {0, 91, 1}, {0, 1, -1}, {0, 1, 101}, {MIN, 1, 1},
             {MAX, 1, 1}, {0, MIN, 1}, {0, MAX, 1}, {0, 1, MIN}, {0, 1, MAX}};
         for (int[] r : refused) {
@@ -594,11 +562,11 @@ public final class PromisesTest {
         Check.due("16: an eleventh", x.piece(0, 5, 5, false), NONE);
         Check.due("16: ten are there", x.count(5), 10);
         Check.due("16: all in one row", x.row(0, 300), 140);
-        rowIs("16", x, 0, 1, 2, 3, 4, 5, 6, 7, 8, 9);
+        Seasons.rowIs("16", x, 0, 1, 2, 3, 4, 5, 6, 7, 8, 9);
     }
 
     private static void played() {
-        SeasonOfHours x = withModes(1);
+        SeasonOfHours x = Seasons.withModes(1);
         x.piece(0, 10, 9, true);
         int[][] refused = {{-1, 0}, {1, 0}, {0, -1}, {0, 401}, {MIN, 0}, {MAX, 0}, {0, MIN}, {0, MAX}};
         for (int[] r : refused) {
@@ -624,67 +592,67 @@ public final class PromisesTest {
     }
 
     private static void rowOrdinary() {
-        SeasonOfHours x = withModes(3);
+        SeasonOfHours x = Seasons.withModes(3);
         x.piece(0, 30, 10, true);
         x.piece(1, 30, 50, true);
         x.piece(2, 20, 30, false);
         x.piece(2, 20, 25, false);
         Check.due("18: one main only", x.row(0, 300), 105);
-        rowIs("18", x, 1, 2, 3);
+        Seasons.rowIs("18", x, 1, 2, 3);
         Check.due("18: within its minutes", x.row(0, 70), 105);
         Check.due("18: one minute less", x.row(0, 69), 80);
-        rowIs("18", x, 1, 2);
+        Seasons.rowIs("18", x, 1, 2);
         Check.due("18: main alone", x.row(0, 30), 50);
-        rowIs("18", x, 1);
+        Seasons.rowIs("18", x, 1);
         Check.due("18: no main has room", x.row(0, 29), NONE);
-        rowIs("18: the latest stays", x, 1);
+        Seasons.rowIs("18: the latest stays", x, 1);
         x.set(0, 1);
         Check.due("18: a mode beside itself is too near", x.row(0, 300), 105);
-        rowIs("18: so the main parts them", x, 2, 1, 3);
+        Seasons.rowIs("18: so the main parts them", x, 2, 1, 3);
         x.played(1, 3);
         Check.due("18: the other main", x.row(0, 300), 65);
-        rowIs("18", x, 2, 0, 3);
+        Seasons.rowIs("18", x, 2, 0, 3);
         x.played(0, 3);
         Check.due("18: none without a main", x.row(0, 300), NONE);
     }
 
     private static void rowTies() {
-        SeasonOfHours x = withModes(2);
+        SeasonOfHours x = Seasons.withModes(2);
         x.piece(0, 10, 0, false);
         x.piece(0, 10, 4, false);
         x.piece(0, 10, 2, false);
         x.piece(0, 10, 2, false);
         x.piece(0, 10, 1, true);
         Check.due("18: a liking of 0 is not needed", x.row(0, 300), 9);
-        rowIs("18: the first row", x, 1, 2, 3, 4);
+        Seasons.rowIs("18: the first row", x, 1, 2, 3, 4);
         Check.due("18: of equal ones the fewest", x.row(0, 20), 5);
-        rowIs("18", x, 1, 4);
+        Seasons.rowIs("18", x, 1, 4);
         x.played(1, 0);
         Check.due("18: of equal ones the first", x.row(0, 20), 3);
-        rowIs("18", x, 2, 4);
+        Seasons.rowIs("18", x, 2, 4);
         fewestAheadOfFirst();
     }
 
     private static void fewestAheadOfFirst() {
-        SeasonOfHours x = withModes(1);
+        SeasonOfHours x = Seasons.withModes(1);
         x.piece(0, 10, 2, false);
         x.piece(0, 10, 2, false);
         x.piece(0, 20, 4, false);
         x.piece(0, 10, 1, true);
         Check.due("18: fewest ahead of the first row", x.row(0, 30), 5);
-        rowIs("18", x, 2, 3);
+        Seasons.rowIs("18", x, 2, 3);
         x.piece(0, 10, 1, true);
         Check.due("18: with another main too", x.row(0, 30), 5);
-        rowIs("18", x, 2, 3);
-        SeasonOfHours y = withModes(1);
+        Seasons.rowIs("18", x, 2, 3);
+        SeasonOfHours y = Seasons.withModes(1);
         y.piece(0, 10, 0, true);
         y.piece(0, 10, 0, true);
         Check.due("18: a sum of 0 is a row", y.row(0, 10), 0);
-        rowIs("18", y, 0);
+        Seasons.rowIs("18", y, 0);
     }
 
     private static void rowEdges() {
-        SeasonOfHours x = withModes(1);
+        SeasonOfHours x = Seasons.withModes(1);
         x.piece(0, 1, 7, true);
         int[][] refused = {{-1, 10}, {401, 10}, {0, 0}, {0, 301}, {0, -1}, {MIN, 10}, {MAX, 10}, {0, MIN}, {0, MAX}};
         for (int[] r : refused) {
@@ -703,33 +671,33 @@ public final class PromisesTest {
         y.piece(2, 1, 5, false);
         y.set(0, 1);
         Check.due("18: as near as LIMIT", y.row(0, 9), 15);
-        rowIs("18", y, 0, 1, 2);
+        Seasons.rowIs("18", y, 0, 1, 2);
         y.set(0, 0);
         Check.due("18: above LIMIT", y.row(0, 9), 10);
-        rowIs("18", y, 0, 2);
+        Seasons.rowIs("18", y, 0, 2);
         Check.due("18: refused", y.row(401, 9), NONE);
-        rowIs("18: refused ones keep the latest", y, 0, 2);
+        Seasons.rowIs("18: refused ones keep the latest", y, 0, 2);
     }
 
     private static void told() {
-        SeasonOfHours x = withModes(1);
+        SeasonOfHours x = Seasons.withModes(1);
         x.piece(0, 9, 1, false);
         x.piece(0, 9, 2, true);
         x.piece(0, 9, 3, false);
         Check.due("19: no row", x.told(0), NONE);
         x.row(0, 27);
-        rowIs("19", x, 0, 1, 2);
+        Seasons.rowIs("19", x, 0, 1, 2);
         for (int i : new int[] {-1, 3, 10, 11, MIN, MAX}) {
             Check.due("19: told(" + i + ")", x.told(i), NONE);
         }
         x.row(0, 9);
-        rowIs("19: a shorter one", x, 1);
+        Seasons.rowIs("19: a shorter one", x, 1);
         x.piece(0, 9, 3, true);
-        rowIs("19: it stays until the next row", x, 1);
+        Seasons.rowIs("19: it stays until the next row", x, 1);
     }
 
     private static void vote() {
-        SeasonOfHours x = withArtists(0, 1, 2, 3, 4, 5, 6);
+        SeasonOfHours x = Seasons.withArtists(0, 1, 2, 3, 4, 5, 6);
         int[][] refused = {{-1, 0}, {7, 0}, {0, -1}, {0, 6}, {MIN, 0}, {MAX, 0}, {0, MIN}, {0, MAX}};
         for (int[] r : refused) {
             Check.due("20: vote(" + r[0] + ", " + r[1] + ")", x.vote(r[0], r[1]), NONE);
@@ -748,7 +716,7 @@ public final class PromisesTest {
     }
 
     private static void kin() {
-        SeasonOfHours x = withArtists(0, 5, 5, 5);
+        SeasonOfHours x = Seasons.withArtists(0, 5, 5, 5);
         int[][] refused = {{-1, 0}, {7, 0}, {0, -1}, {0, 3}, {MIN, 0}, {MAX, 0}, {0, MIN}, {0, MAX}};
         for (int[] r : refused) {
             Check.no("21: kin(" + r[0] + ", " + r[1] + ")", x.kin(r[0], r[1], true));
@@ -768,7 +736,7 @@ public final class PromisesTest {
     }
 
     private static void points() {
-        SeasonOfHours x = withArtists(0, 5, 5);
+        SeasonOfHours x = Seasons.withArtists(0, 5, 5);
         for (int artist : new int[] {-1, 2, MIN, MAX}) {
             Check.due("22: points(" + artist + ")", x.points(artist), NONE);
         }
@@ -787,7 +755,7 @@ public final class PromisesTest {
     }
 
     private static void prize() {
-        SeasonOfHours x = withArtists(0, 4, 7, 7, 2);
+        SeasonOfHours x = Seasons.withArtists(0, 4, 7, 7, 2);
         int[] byRank = {1, 2, 0, 3};
         for (int i = 0; i < 4; i++) {
             Check.due("23: without votes, prize(" + i + ")", x.prize(i), byRank[i]);
