@@ -49,7 +49,8 @@ final class Check {
     }
 
     static void end() {
-        System.out.println(wrong == 0 ? asked + " answers, all as due" : wrong + " of " + asked + " answers are not as due");
+        String found = wrong == 0 ? asked + " answers, all as due" : wrong + " of " + asked + " answers are not as due";
+        System.out.println(found);
         if (wrong != 0) {
             System.exit(1);
         }

@@ -8,6 +8,7 @@ import java.util.List;
  */
 final class Probe {
     private static final int NONE = -1;
+    private static final int[] MINUTES = {9, 50, 120, 200, 240, 300};
 
     private Probe() {
     }
@@ -45,6 +46,9 @@ final class Probe {
         addSlots(row);
         row.add(Call.best());
         addSlots(row);
+        for (int minutes : MINUTES) {
+            addRow(row, 200, minutes);
+        }
         return row;
     }
 
@@ -55,6 +59,7 @@ final class Probe {
         }
     }
 
+    /** Were a full season to take one more, this would hide it: so reading() does without. */
     private static List<Call> filledUp() {
         List<Call> row = new ArrayList<>();
         for (int i = 0; i < 6; i++) {
@@ -108,7 +113,7 @@ final class Probe {
         for (int day : new int[] {0, 3, 6, 30, 46, 77, 96, 105, 120, 154, 195, 229, 269, 331, 361, 399}) {
             addRow(row, day, 300);
         }
-        for (int minutes : new int[] {9, 50, 120}) {
+        for (int minutes : MINUTES) {
             addRow(row, 200, minutes);
         }
         row.add(Call.set(1, 7));

@@ -93,7 +93,7 @@ final class Seasons {
             x.put(slot, 5 - slot, slot);
         }
         for (int i = 0; i < 10; i++) {
-            x.piece(i % 6, 5 + 9 * i, 100 - 7 * i, i % 3 == 0);
+            x.piece(i % 6, 5 + 5 * i, 100 - 7 * i, i % 3 == 1);
             x.played(i, i == 9 ? 400 : 40 * i);
         }
         x.row(200, 120);

@@ -73,7 +73,8 @@ public final class FaceTest {
         for (Field f : face.getDeclaredFields()) {
             boolean isNone = f.getName().equals("NONE");
             int due = isNone ? Modifier.PUBLIC | Modifier.STATIC | Modifier.FINAL : Modifier.PRIVATE;
-            Check.due("access of " + f, f.getModifiers() & (isNone ? -1 : Modifier.PUBLIC | Modifier.PROTECTED | Modifier.PRIVATE), due);
+            int asked = isNone ? -1 : Modifier.PUBLIC | Modifier.PROTECTED | Modifier.PRIVATE;
+            Check.due("access of " + f, f.getModifiers() & asked, due);
             Check.yes("type of " + f, !isNone || f.getType() == int.class);
         }
         Check.due("NONE", SeasonOfHours.NONE, -1);

@@ -26,7 +26,9 @@ public final class PiecesBoundsTest {
         pieceOnceAtMost();
         noRowStays();
         rowChangesNothingElse();
-        rowOfEqualLikings();
+        rowOfMostLiking();
+        rowOfFewestPieces();
+        rowThatIsFirst();
         toldBounds();
         Check.end();
     }
@@ -35,8 +37,8 @@ public final class PiecesBoundsTest {
     private static void pieceModes() {
         Check.refused("16: no modes", new SeasonOfHours(), Call.piece(0, 1, 1, true), Call.piece(-1, 1, 1, true));
         SeasonOfHours x = Seasons.withModes(2);
-        Check.refused("16: mode", x, Call.piece(-1, 1, 1, true), Call.piece(2, 1, 1, true), Call.piece(MIN, 1, 1, true),
-            Call.piece(MAX, 1, 1, true));
+        Check.refused("16: mode", x, Call.piece(-1, 1, 1, true), Call.piece(2, 1, 1, true),
+            Call.piece(MIN, 1, 1, true), Call.piece(MAX, 1, 1, true));
         Check.due("16: none yet", x.count(5), 0);
         Check.due("16: the first mode", x.piece(0, 1, 1, true), 0);
         Check.due("16: the last mode", x.piece(1, 1, 1, false), 1);
@@ -48,8 +50,8 @@ public final class PiecesBoundsTest {
     /** Terms 2: "MINUTES 1 .. 90". */
     private static void pieceMinutes() {
         SeasonOfHours x = Seasons.withModes(1);
-        Check.refused("16: minutes", x, Call.piece(0, 0, 9, true), Call.piece(0, 91, 9, true), Call.piece(0, -1, 9, true),
-            Call.piece(0, MIN, 9, true), Call.piece(0, MAX, 9, true));
+        Check.refused("16: minutes", x, Call.piece(0, 0, 9, true), Call.piece(0, 91, 9, true),
+            Call.piece(0, -1, 9, true), Call.piece(0, MIN, 9, true), Call.piece(0, MAX, 9, true));
         Check.due("16: none yet", x.count(5), 0);
         Check.due("16: no row of none", x.row(0, 300), NONE);
         Check.due("16: the most minutes", x.piece(0, 90, 9, true), 0);
@@ -64,8 +66,8 @@ public final class PiecesBoundsTest {
     /** Terms 2: "a LIKING 0 .. 100". */
     private static void pieceLikings() {
         SeasonOfHours x = Seasons.withModes(1);
-        Check.refused("16: liking", x, Call.piece(0, 9, -1, true), Call.piece(0, 9, 101, true), Call.piece(0, 9, MIN, true),
-            Call.piece(0, 9, MAX, true));
+        Check.refused("16: liking", x, Call.piece(0, 9, -1, true), Call.piece(0, 9, 101, true),
+            Call.piece(0, 9, MIN, true), Call.piece(0, 9, MAX, true));
         Check.due("16: none yet", x.count(5), 0);
         Check.due("16: the least liking", x.piece(0, 9, 0, true), 0);
         Check.due("16: a row of liking 0", x.row(0, 9), 0);
@@ -81,14 +83,18 @@ public final class PiecesBoundsTest {
         SeasonOfHours x = Seasons.withModes(1);
         for (int i = 0; i < 10; i++) {
             Check.due("16: the pieces ahead", x.count(5), i);
-            Check.due("16: its number", x.piece(0, 10 + i, 50 + i, true), i);
+            Check.due("16: its number", x.piece(0, 10 + i, 50 + i, i < 9), i);
         }
-        Check.refused("16: an eleventh", x, Call.piece(0, 1, 100, true), Call.piece(0, 90, 0, false), Call.piece(0, 1, 1, true));
+        Check.refused("16: an eleventh", x, Call.piece(0, 1, 100, true), Call.piece(0, 90, 0, false),
+            Call.piece(0, 1, 1, true), Call.piece(0, 0, 101, true));
         Check.due("16: ten pieces", x.count(5), 10);
-        for (int i = 0; i < 10; i++) {
+        for (int i = 0; i < 9; i++) {
             Check.due("16: piece " + i + " keeps its liking", x.row(0, 10 + i), 50 + i);
             Seasons.rowIs("16: piece " + i, x, i);
         }
+        Check.due("16: the last is not main", x.row(0, 19), 58);
+        Check.due("16: the last goes with a main one", x.row(0, 29), 109);
+        Seasons.rowIs("16: the first and the last", x, 0, 9);
         Check.due("16: less than any", x.row(0, 9), NONE);
     }
 
@@ -100,7 +106,8 @@ public final class PiecesBoundsTest {
             Check.refused("17: not there yet", x, Call.played(i, 100));
             x.piece(0, 10 + i, 50 + i, true);
         }
-        Check.refused("17: piece", x, Call.played(-1, 100), Call.played(10, 100), Call.played(MIN, 100), Call.played(MAX, 100));
+        Check.refused("17: piece", x, Call.played(-1, 100), Call.played(10, 100), Call.played(MIN, 100),
+            Call.played(MAX, 100));
         Check.due("17: the last was not played", x.row(100, 300), 59);
         Check.yes("17: the last piece", x.played(9, 100));
         Check.due("17: the last is kept away", x.row(100, 300), 58);
@@ -116,7 +123,8 @@ public final class PiecesBoundsTest {
         x.set(1, 1);
         for (int day : new int[] {0, 400, 1, 399, 200}) {
             Check.yes("17: day " + day, x.played(0, day));
-            Check.refused("17: day", x, Call.played(0, -1), Call.played(0, 401), Call.played(0, MIN), Call.played(0, MAX));
+            Check.refused("17: day", x, Call.played(0, -1), Call.played(0, 401), Call.played(0, MIN),
+                Call.played(0, MAX));
             Check.due("17: still played on " + day, x.row(day, 10), NONE);
             for (int other : new int[] {0, 1, 199, 201, 399, 400}) {
                 Check.due("17: played on " + day + ", row for " + other, x.row(other, 10), other == day ? NONE : 9);
@@ -159,7 +167,8 @@ public final class PiecesBoundsTest {
         Seasons.rowIs("18: no row yet", x);
         Check.due("18: the first day", x.row(0, 10), 9);
         x.piece(0, 10, 10, true);
-        Check.refused("18: day again", x, Call.row(-1, 10), Call.row(401, 10), Call.row(MIN, 10), Call.row(MAX, 10));
+        Check.refused("18: day again", x, Call.row(-1, 10), Call.row(401, 10), Call.row(MIN, 10),
+            Call.row(MAX, 10));
         Seasons.rowIs("18: the latest stays", x, 0);
         Check.due("18: the last day", x.row(400, 10), 10);
         Seasons.rowIs("18: another row", x, 1);
@@ -169,7 +178,8 @@ public final class PiecesBoundsTest {
     private static void rowMinutes() {
         SeasonOfHours x = Seasons.withModes(1);
         x.piece(0, 1, 9, true);
-        Check.refused("18: minutes", x, Call.row(0, 0), Call.row(0, 301), Call.row(0, -1), Call.row(0, MIN), Call.row(0, MAX));
+        Check.refused("18: minutes", x, Call.row(0, 0), Call.row(0, 301), Call.row(0, -1), Call.row(0, MIN),
+            Call.row(0, MAX));
         Seasons.rowIs("18: no row yet", x);
         Check.due("18: one minute", x.row(0, 1), 9);
         x.piece(0, 1, 10, true);
@@ -292,6 +302,16 @@ public final class PiecesBoundsTest {
         x.piece(2, 10, 5, false);
         Check.due("18: with one between", x.row(0, 300), 15);
         Seasons.rowIs("18: with one between", x, 0, 2, 1);
+        SeasonOfHours y = new SeasonOfHours();
+        y.mode(0b1000, 0);
+        y.mode(0b0011, 0);
+        y.mode(0b0001, 0);
+        y.set(0, 0);
+        for (int i = 0; i < 3; i++) {
+            y.piece(i, 10, 5, i == 2);
+        }
+        Check.due("18: with the first between", y.row(0, 300), 15);
+        Seasons.rowIs("18: with the first between", y, 1, 0, 2);
     }
 
     /** A MODE shares all its NOTES with itself, so its PIECES stand side by side if these are at most LIMIT. */
@@ -334,8 +354,8 @@ public final class PiecesBoundsTest {
         Seasons.rowIs("18: still no row", x);
         Check.due("18: a row", x.row(0, 20), 17);
         x.played(1, 0);
-        Check.refused("18: others and none", x, Call.row(0, 20), Call.row(0, 9), Call.row(-1, 20), Call.row(401, 20), Call.row(0, 0),
-            Call.row(0, 301), Call.row(MIN, MIN), Call.row(MAX, MAX));
+        Check.refused("18: others and none", x, Call.row(0, 20), Call.row(0, 9), Call.row(-1, 20),
+            Call.row(401, 20), Call.row(0, 0), Call.row(0, 301), Call.row(MIN, MIN), Call.row(MAX, MAX));
         Seasons.rowIs("18: the latest row stays", x, 0, 1);
         Check.due("18: a shorter row", x.row(7, 10), 8);
         Seasons.rowIs("18: is the latest then", x, 1);
@@ -353,26 +373,61 @@ public final class PiecesBoundsTest {
         Seasons.slots("18: the programme stays", x, 0, 0, 1, 1, NONE, NONE, 2, 2);
     }
 
-    /** Terms 2: "of equal ones the fewest PIECES, then the first ROW (the less PIECE where they are not alike first)". */
-    private static void rowOfEqualLikings() {
+    /** Terms 2: "the greatest sum of LIKINGS": more by 1 is ahead of fewer PIECES and of the first ROW. */
+    private static void rowOfMostLiking() {
+        SeasonOfHours x = Seasons.withModes(1);
+        x.piece(0, 10, 5, true);
+        x.piece(0, 10, 1, false);
+        x.piece(0, 20, 5, true);
+        Check.due("18: more by 1", x.row(0, 20), 6);
+        Seasons.rowIs("18: though one alone is nearly as liked", x, 0, 1);
+        x.piece(0, 20, 7, true);
+        Check.due("18: more by 1 again", x.row(0, 20), 7);
+        Seasons.rowIs("18: though it is a later row", x, 3);
+    }
+
+    /** Terms 2: "of equal ones the fewest PIECES": fewer by 1 is ahead of the first ROW. */
+    private static void rowOfFewestPieces() {
         SeasonOfHours x = Seasons.withModes(1);
         x.piece(0, 10, 5, false);
-        x.piece(0, 10, 5, false);
-        x.piece(0, 10, 0, true);
-        x.piece(0, 10, 10, false);
-        Check.due("18: equal likings", x.row(0, 30), 15);
-        Seasons.rowIs("18: the first row of equal length", x, 0, 2, 3);
+        x.piece(0, 10, 10, true);
         x.piece(0, 20, 15, true);
-        Check.due("18: one alone has as much", x.row(0, 20), 15);
-        Seasons.rowIs("18: the fewest pieces", x, 4);
-        Check.due("18: a liking more", x.row(0, 30), 25);
-        Seasons.rowIs("18: is ahead of all", x, 3, 4);
+        Check.due("18: two or one", x.row(0, 20), 15);
+        Seasons.rowIs("18: one, though it is a later row", x, 2);
+        SeasonOfHours y = Seasons.withModes(1);
+        y.piece(0, 20, 15, true);
+        y.piece(0, 10, 5, false);
+        y.piece(0, 10, 10, true);
+        Check.due("18: one or two", y.row(0, 20), 15);
+        Seasons.rowIs("18: one", y, 0);
         SeasonOfHours zero = Seasons.withModes(1);
         zero.piece(0, 10, 0, false);
         zero.piece(0, 10, 0, true);
         zero.piece(0, 10, 0, true);
         Check.due("18: a sum of 0", zero.row(0, 300), 0);
         Seasons.rowIs("18: the fewest of sum 0", zero, 1);
+    }
+
+    /** Terms 2: "then the first ROW (the less PIECE where they are not alike first)". */
+    private static void rowThatIsFirst() {
+        SeasonOfHours x = Seasons.withModes(1);
+        x.piece(0, 10, 5, true);
+        x.piece(0, 20, 6, true);
+        x.piece(0, 10, 4, false);
+        x.piece(0, 20, 5, false);
+        Check.due("18: 0 with 3, or 1 with 2", x.row(0, 30), 10);
+        Seasons.rowIs("18: not alike at the first", x, 0, 3);
+        SeasonOfHours y = Seasons.withModes(1);
+        y.piece(0, 10, 1, true);
+        y.piece(0, 15, 5, false);
+        y.piece(0, 25, 6, false);
+        y.piece(0, 5, 4, false);
+        y.piece(0, 15, 5, false);
+        Check.due("18: 0 with 1 and 4, or with 2 and 3", y.row(0, 40), 11);
+        Seasons.rowIs("18: not alike at the second", y, 0, 1, 4);
+        y.played(1, 0);
+        Check.due("18: without 1", y.row(0, 40), 11);
+        Seasons.rowIs("18: 0 with 2 and 3", y, 0, 2, 3);
     }
 
     /** 19: "NONE for none such". */
@@ -385,7 +440,8 @@ public final class PiecesBoundsTest {
             x.row(0, 300);
             Check.due("19: the first", x.told(0), 0);
             Check.due("19: the last", x.told(i), i);
-            Check.refused("19: none such", x, Call.told(-1), Call.told(i + 1), Call.told(10), Call.told(MIN), Call.told(MAX));
+            Check.refused("19: none such", x, Call.told(-1), Call.told(i + 1), Call.told(10), Call.told(MIN),
+                Call.told(MAX));
         }
         x.row(0, 1);
         Check.refused("19: a shorter row", x, Call.told(1), Call.told(9));

@@ -102,7 +102,8 @@ public final class PrizesBoundsTest {
         for (int judge = 0; judge <= 6; judge++) {
             x.vote(judge, 0);
         }
-        Check.refused("21: judge", x, Call.kin(-1, 0, true), Call.kin(7, 0, true), Call.kin(MIN, 0, true), Call.kin(MAX, 0, true));
+        Check.refused("21: judge", x, Call.kin(-1, 0, true), Call.kin(7, 0, true), Call.kin(MIN, 0, true),
+            Call.kin(MAX, 0, true));
         Check.due("21: no kin", x.points(0), 42);
         for (int judge = 0; judge <= 6; judge++) {
             Check.yes("21: judge " + judge, x.kin(judge, 0, true));
@@ -121,7 +122,8 @@ public final class PrizesBoundsTest {
         for (int artist = 0; artist < 3; artist++) {
             x.vote(4, artist);
         }
-        Check.refused("21: artist", x, Call.kin(4, -1, true), Call.kin(4, 3, true), Call.kin(4, MIN, true), Call.kin(4, MAX, true));
+        Check.refused("21: artist", x, Call.kin(4, -1, true), Call.kin(4, 3, true), Call.kin(4, MIN, true),
+            Call.kin(4, MAX, true));
         pointsAre("21: no kin", x, 6, 5, 4);
         Check.yes("21: the last artist", x.kin(4, 2, true));
         pointsAre("21: the last is kin", x, 6, 5, 0);
@@ -154,11 +156,13 @@ public final class PrizesBoundsTest {
         Check.refused("22: no artists", new SeasonOfHours(), Call.points(0), Call.points(-1));
         SeasonOfHours x = new SeasonOfHours();
         for (int i = 0; i < 6; i++) {
-            Check.refused("22: none such", x, Call.points(i), Call.points(-1), Call.points(6), Call.points(MIN), Call.points(MAX));
+            Check.refused("22: none such", x, Call.points(i), Call.points(-1), Call.points(6), Call.points(MIN),
+                Call.points(MAX));
             x.artist(5);
             Check.due("22: now there is", x.points(i), 0);
         }
-        Check.refused("22: none behind six", x, Call.points(6), Call.points(-1), Call.points(MIN), Call.points(MAX));
+        Check.refused("22: none behind six", x, Call.points(6), Call.points(-1), Call.points(MIN),
+            Call.points(MAX));
     }
 
     /** Terms 3: "0 at least": without a vote, from KIN, and 1 for the last of six. */
@@ -208,7 +212,8 @@ public final class PrizesBoundsTest {
     private static void prizePlaces() {
         SeasonOfHours x = new SeasonOfHours();
         for (int i = 0; i <= 6; i++) {
-            Check.refused("23: none such", x, Call.prize(i), Call.prize(-1), Call.prize(6), Call.prize(MIN), Call.prize(MAX));
+            Check.refused("23: none such", x, Call.prize(i), Call.prize(-1), Call.prize(6), Call.prize(MIN),
+                Call.prize(MAX));
             x.artist(5);
             for (int place = 0; place <= i && place < 6; place++) {
                 Check.due("23: place " + place + " of " + (i + 1), x.prize(place), place);

@@ -41,15 +41,15 @@ public final class ProgrammeBoundsTest {
             int slots = shape[0] * shape[1];
             SeasonOfHours x = Seasons.liking(5, 1, 5);
             x.season(shape[0], shape[1]);
-            Check.refused("11: slot", x, Call.put(-1, 0, 0), Call.put(slots, 0, 0), Call.put(6, 0, 0), Call.put(MIN, 0, 0),
-                Call.put(MAX, 0, 0));
+            Check.refused("11: slot", x, Call.put(-1, 0, 0), Call.put(slots, 0, 0), Call.put(6, 0, 0),
+                Call.put(MIN, 0, 0), Call.put(MAX, 0, 0));
             Check.due("11: nobody is put", x.count(3), 0);
             for (int slot = 0; slot < slots; slot++) {
                 Check.yes("11: slot " + slot + " of " + slots, x.put(slot, 0, 0));
                 Check.due("11: one more is put", x.count(3), slot + 1);
             }
-            Check.refused("11: nobody in no slot", x, Call.put(-1, NONE, 0), Call.put(slots, NONE, 0), Call.put(MIN, NONE, 0),
-                Call.put(MAX, NONE, 0));
+            Check.refused("11: nobody in no slot", x, Call.put(-1, NONE, 0), Call.put(slots, NONE, 0),
+                Call.put(MIN, NONE, 0), Call.put(MAX, NONE, 0));
             Check.due("11: all are there", x.count(3), slots);
         }
     }
@@ -58,7 +58,8 @@ public final class ProgrammeBoundsTest {
     private static void putArtists() {
         SeasonOfHours x = Seasons.withArtists(1, 5, 5, 5, 5, 5, 5);
         x.put(0, 3, 0);
-        Check.refused("11: artist", x, Call.put(0, 6, 0), Call.put(0, -2, 0), Call.put(0, MIN, 0), Call.put(0, MAX, 0));
+        Check.refused("11: artist", x, Call.put(0, 6, 0), Call.put(0, -2, 0), Call.put(0, MIN, 0),
+            Call.put(0, MAX, 0));
         Seasons.slots("11: the one ahead stays", x, 3, 0);
         Check.yes("11: the last artist", x.put(0, 5, 0));
         Seasons.slots("11: the last artist", x, 5, 0);
@@ -73,7 +74,8 @@ public final class ProgrammeBoundsTest {
     private static void putModes() {
         SeasonOfHours x = Seasons.withArtists(6, 5);
         x.put(0, 0, 3);
-        Check.refused("11: mode", x, Call.put(0, 0, -1), Call.put(0, 0, 6), Call.put(0, 0, MIN), Call.put(0, 0, MAX));
+        Check.refused("11: mode", x, Call.put(0, 0, -1), Call.put(0, 0, 6), Call.put(0, 0, MIN),
+            Call.put(0, 0, MAX));
         Seasons.slots("11: the one ahead stays", x, 0, 3);
         Check.yes("11: the last mode", x.put(0, 0, 5));
         Seasons.slots("11: the last mode", x, 0, 5);
@@ -106,9 +108,10 @@ public final class ProgrammeBoundsTest {
         x.season(1, 2);
         x.put(0, 0, 1);
         x.put(1, 1, 1);
-        Call[] others = {Call.mode(7, 7), Call.artist(1), Call.like(0, 1, 0), Call.like(1, 1, 100), Call.rival(0, 1, true),
-            Call.ill(0, true), Call.set(0, 0), Call.set(1, 0), Call.piece(0, 9, 9, true), Call.played(0, 9),
-            Call.row(200, 9), Call.vote(0, 0), Call.kin(0, 1, true), Call.near(0, 1), Call.wrong(), Call.prize(0)};
+        Call[] others = {Call.mode(7, 7), Call.artist(1), Call.like(0, 1, 0), Call.like(1, 1, 100),
+            Call.rival(0, 1, true), Call.ill(0, true), Call.set(0, 0), Call.set(1, 0), Call.piece(0, 9, 9, true),
+            Call.played(0, 9), Call.row(200, 9), Call.vote(0, 0), Call.kin(0, 1, true), Call.near(0, 1),
+            Call.wrong(), Call.prize(0)};
         for (Call other : others) {
             Check.yes("taken: " + other.text(), other.on(x) != other.refusal());
             Seasons.slots("stays as told behind " + other.text(), x, 0, 1, 1, 1);
@@ -124,8 +127,8 @@ public final class ProgrammeBoundsTest {
             x.season(shape[0], shape[1]);
             Check.yes("12: the last slot is put", x.put(slots - 1, 0, 0));
             for (int what = 0; what <= 1; what++) {
-                Check.refused("12: slot", x, Call.at(-1, what), Call.at(slots, what), Call.at(6, what), Call.at(MIN, what),
-                    Call.at(MAX, what));
+                Check.refused("12: slot", x, Call.at(-1, what), Call.at(slots, what), Call.at(6, what),
+                    Call.at(MIN, what), Call.at(MAX, what));
                 Check.due("12: the first slot", Check.at(x, 0, what), slots == 1 ? 0 : NONE);
                 Check.due("12: the last slot", Check.at(x, slots - 1, what), 0);
             }
@@ -136,8 +139,8 @@ public final class ProgrammeBoundsTest {
     private static void atWhat() {
         SeasonOfHours x = Seasons.withArtists(2, 5);
         for (int round = 0; round < 2; round++) {
-            Check.refused("12: what", x, Call.at(0, -1), Call.at(0, 2), Call.at(0, MIN), Call.at(0, MAX), Call.at(-1, -1),
-                Call.at(1, 2));
+            Check.refused("12: what", x, Call.at(0, -1), Call.at(0, 2), Call.at(0, MIN), Call.at(0, MAX),
+                Call.at(-1, -1), Call.at(1, 2));
             Check.due("12: artist", Check.at(x, 0, 0), round == 0 ? NONE : 0);
             Check.due("12: mode", Check.at(x, 0, 1), round == 0 ? NONE : 1);
             x.put(0, 0, 1);

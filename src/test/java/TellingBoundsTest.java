@@ -56,9 +56,9 @@ public final class TellingBoundsTest {
 
     private static void newObjectKnowsNoNumber() {
         SeasonOfHours x = new SeasonOfHours();
-        Check.refused("1: none such", x, Call.like(0, 0, 1), Call.rival(0, 1, true), Call.ill(0, true), Call.near(0, 0),
-            Call.put(0, 0, 0), Call.piece(0, 1, 1, true), Call.played(0, 0), Call.row(0, 300), Call.told(0),
-            Call.vote(0, 0), Call.kin(0, 0, true), Call.points(0), Call.prize(0));
+        Check.refused("1: none such", x, Call.like(0, 0, 1), Call.rival(0, 1, true), Call.ill(0, true),
+            Call.near(0, 0), Call.put(0, 0, 0), Call.piece(0, 1, 1, true), Call.played(0, 0), Call.row(0, 300),
+            Call.told(0), Call.vote(0, 0), Call.kin(0, 0, true), Call.points(0), Call.prize(0));
         Check.yes("1: nobody can be put", x.put(0, NONE, 0));
         Check.due("1: still no mode", x.count(0), 0);
         Check.due("1: still no artist", x.count(1), 0);
@@ -68,7 +68,8 @@ public final class TellingBoundsTest {
     /** 2: "Refused: notes not 0 .. 4095". */
     private static void notes() {
         SeasonOfHours x = new SeasonOfHours();
-        Check.refused("2: notes", x, Call.mode(-1, 15), Call.mode(4096, 15), Call.mode(MIN, 15), Call.mode(MAX, 15));
+        Check.refused("2: notes", x, Call.mode(-1, 15), Call.mode(4096, 15), Call.mode(MIN, 15),
+            Call.mode(MAX, 15));
         Check.due("2: no mode of refused notes", x.count(0), 0);
         Check.due("2: no notes", x.mode(0, 15), 0);
         Check.due("2: all notes", x.mode(4095, 15), 1);
@@ -105,7 +106,8 @@ public final class TellingBoundsTest {
             x.like(0, mode, 1);
             for (int slot = 0; slot < 3; slot++) {
                 x.put(slot, 0, mode);
-                Check.due("2: hours " + hours[mode] + " at " + slot, x.wrong(), goodAt[mode][slot] == 1 ? 0 : 40 + slot);
+                int due = goodAt[mode][slot] == 1 ? 0 : 40 + slot;
+                Check.due("2: hours " + hours[mode] + " at " + slot, x.wrong(), due);
                 x.put(slot, NONE, 0);
             }
         }
@@ -129,7 +131,8 @@ public final class TellingBoundsTest {
     private static void ranks() {
         for (int rank = 1; rank <= 9; rank++) {
             SeasonOfHours x = new SeasonOfHours();
-            Check.refused("3: rank", x, Call.artist(0), Call.artist(10), Call.artist(-1), Call.artist(MIN), Call.artist(MAX));
+            Check.refused("3: rank", x, Call.artist(0), Call.artist(10), Call.artist(-1), Call.artist(MIN),
+                Call.artist(MAX));
             Check.due("3: no artist of a refused rank", x.count(1), 0);
             Check.due("3: rank " + rank, x.artist(rank), 0);
             Check.due("3: one artist", x.count(1), 1);
@@ -165,7 +168,8 @@ public final class TellingBoundsTest {
         for (int v : new int[] {100, 1, 50, 0, 99}) {
             Check.yes("4: liking " + v, x.like(0, 0, v));
             Check.due("4: it is " + v, x.count(4), v);
-            Check.refused("4: liking", x, Call.like(0, 0, -1), Call.like(0, 0, 101), Call.like(0, 0, MIN), Call.like(0, 0, MAX));
+            Check.refused("4: liking", x, Call.like(0, 0, -1), Call.like(0, 0, 101), Call.like(0, 0, MIN),
+                Call.like(0, 0, MAX));
             Check.due("4: it is still " + v, x.count(4), v);
         }
     }
@@ -189,8 +193,10 @@ public final class TellingBoundsTest {
 
     private static void likeNumbers() {
         SeasonOfHours x = Seasons.withArtists(2, 5, 5);
-        Check.refused("4: artist", x, Call.like(-1, 0, 9), Call.like(2, 0, 9), Call.like(MIN, 0, 9), Call.like(MAX, 0, 9));
-        Check.refused("4: mode", x, Call.like(0, -1, 9), Call.like(0, 2, 9), Call.like(0, MIN, 9), Call.like(0, MAX, 9));
+        Check.refused("4: artist", x, Call.like(-1, 0, 9), Call.like(2, 0, 9), Call.like(MIN, 0, 9),
+            Call.like(MAX, 0, 9));
+        Check.refused("4: mode", x, Call.like(0, -1, 9), Call.like(0, 2, 9), Call.like(0, MIN, 9),
+            Call.like(0, MAX, 9));
         Check.due("4: nobody likes anything", x.best(), 0);
         Check.yes("4: the last of both", x.like(1, 1, 9));
         Check.due("4: likes it", x.best(), 9);
@@ -198,7 +204,8 @@ public final class TellingBoundsTest {
         SeasonOfHours full = Seasons.withArtists(6, 1, 2, 3, 4, 5, 6);
         Check.yes("4: the last of six", full.like(5, 5, 8));
         Check.yes("4: the first of six", full.like(0, 0, 7));
-        Check.refused("4: of a full season", full, Call.like(6, 0, 9), Call.like(0, 6, 9), Call.like(6, 6, 9), Call.like(-1, 5, 9));
+        Check.refused("4: of a full season", full, Call.like(6, 0, 9), Call.like(0, 6, 9), Call.like(6, 6, 9),
+            Call.like(-1, 5, 9));
         Check.due("4: the greater one", full.best(), 8);
         Seasons.slots("4: the last of six", full, 5, 5);
     }
@@ -250,7 +257,8 @@ public final class TellingBoundsTest {
     private static void illNumbers() {
         SeasonOfHours x = Seasons.liking(3, 1, 5, 5, 5, 5, 5, 5);
         for (boolean is : new boolean[] {true, false}) {
-            Check.refused("6: none such", x, Call.ill(-1, is), Call.ill(6, is), Call.ill(MIN, is), Call.ill(MAX, is));
+            Check.refused("6: none such", x, Call.ill(-1, is), Call.ill(6, is), Call.ill(MIN, is),
+                Call.ill(MAX, is));
         }
         for (int artist : new int[] {0, 5}) {
             x.put(0, artist, 0);
@@ -281,7 +289,8 @@ public final class TellingBoundsTest {
         for (int v : new int[] {0, 1, 11, 12, 6}) {
             Check.due("7: LIMIT becomes " + v, x.set(0, v), was);
             was = v;
-            Check.refused("7: LIMIT", x, Call.set(0, -1), Call.set(0, 13), Call.set(0, 30), Call.set(0, MIN), Call.set(0, MAX));
+            Check.refused("7: LIMIT", x, Call.set(0, -1), Call.set(0, 13), Call.set(0, 30), Call.set(0, MIN),
+                Call.set(0, MAX));
             Check.due("7: LIMIT is " + v, x.set(0, v), v);
         }
         Check.due("7: REST is as it was", x.set(1, 7), 7);
@@ -304,7 +313,7 @@ public final class TellingBoundsTest {
     /** 7: "Refused: others". */
     private static void setOthers() {
         SeasonOfHours x = new SeasonOfHours();
-        for (int v : new int[] {0, 5, 12, -1, MIN, MAX}) {
+        for (int v : new int[] {12, 0, 5, -1, MIN, MAX}) {
             Check.refused("7: what", x, Call.set(-1, v), Call.set(2, v), Call.set(MIN, v), Call.set(MAX, v));
         }
         Check.due("7: LIMIT stays", x.set(0, 3), 12);
@@ -317,8 +326,8 @@ public final class TellingBoundsTest {
         for (int e = 1; e <= 3; e++) {
             Check.yes("8: evenings " + e, x.season(e, 1));
             Check.due("8: slots of " + e + " evenings", x.count(2), e);
-            Check.refused("8: evenings", x, Call.season(0, 1), Call.season(4, 1), Call.season(-1, 1), Call.season(6, 1),
-                Call.season(MIN, 1), Call.season(MAX, 1), Call.season(0, 3));
+            Check.refused("8: evenings", x, Call.season(0, 1), Call.season(4, 1), Call.season(-1, 1),
+                Call.season(6, 1), Call.season(MIN, 1), Call.season(MAX, 1), Call.season(0, 3));
             Check.due("8: still slots of " + e + " evenings", x.count(2), e);
         }
     }
@@ -329,8 +338,8 @@ public final class TellingBoundsTest {
         for (int s = 1; s <= 3; s++) {
             Check.yes("8: slots " + s, x.season(1, s));
             Check.due("8: slots of one evening", x.count(2), s);
-            Check.refused("8: slots", x, Call.season(1, 0), Call.season(1, 4), Call.season(1, -1), Call.season(1, 6),
-                Call.season(1, MIN), Call.season(1, MAX), Call.season(3, 0));
+            Check.refused("8: slots", x, Call.season(1, 0), Call.season(1, 4), Call.season(1, -1),
+                Call.season(1, 6), Call.season(1, MIN), Call.season(1, MAX), Call.season(3, 0));
             Check.due("8: still slots of one evening", x.count(2), s);
         }
     }
@@ -390,13 +399,15 @@ public final class TellingBoundsTest {
         Check.due("9: the other way round", x.near(5, 0), 0);
         Check.due("9: all but one", x.near(0, 1), 11);
         Check.refused("9: six modes", x, Call.near(6, 0), Call.near(0, 6), Call.near(-1, 0), Call.near(0, -1),
-            Call.near(MIN, 0), Call.near(0, MIN), Call.near(MAX, 0), Call.near(0, MAX), Call.near(6, 6), Call.near(MIN, MAX));
+            Call.near(MIN, 0), Call.near(0, MIN), Call.near(MAX, 0), Call.near(0, MAX), Call.near(6, 6),
+            Call.near(MIN, MAX));
     }
 
     /** 10: "NONE for another what". */
     private static void countBounds() {
         for (SeasonOfHours x : List.of(new SeasonOfHours(), Seasons.some(), Seasons.full())) {
-            Check.refused("10: another what", x, Call.count(-1), Call.count(7), Call.count(8), Call.count(MIN), Call.count(MAX));
+            Check.refused("10: another what", x, Call.count(-1), Call.count(7), Call.count(8), Call.count(MIN),
+                Call.count(MAX));
             for (int what = 0; what <= 6; what++) {
                 Check.yes("10: count(" + what + ")", x.count(what) >= 0);
             }
