@@ -29,6 +29,7 @@ public final class ProgrammeBoundsTest {
         bestWithTooFew();
         bestOfEqualWorth();
         nobodyIsGreaterThanAll();
+        nobodyHasNoWorth();
         mendLeastAndMost();
         mendFewestAheadOfWorth();
         mendOfEqualWorth();
@@ -487,6 +488,33 @@ public final class ProgrammeBoundsTest {
             Check.due("14: the last artist is ahead of nobody", x.at(0, 0), 5);
             Check.due("14: with the last mode", x.at(0, 1), 5);
             Check.due("14: and nobody else", x.count(3), 1);
+        }
+    }
+
+    /** Terms 1: "WORTH: the sum of LIKINGS": nobody in a slot adds and takes nothing. */
+    private static void nobodyHasNoWorth() {
+        SeasonOfHours x = Seasons.withArtists(2, 5, 5, 5, 5);
+        x.season(1, 2);
+        x.rival(0, 1, true);
+        x.rival(0, 2, true);
+        x.like(0, 0, 10);
+        x.like(1, 0, 5);
+        for (int second : new int[] {5, 6, 4, 5}) {
+            x.like(2, 1, second);
+            Check.due("14: one of 10, or 5 and " + second, x.best(), second == 6 ? 11 : 10);
+            oneOrTwo("14: one of 10, or 5 and " + second, x, second);
+            x.put(0, 3, 0);
+            x.put(1, 3, 1);
+            Check.due("15: one of 10, or 5 and " + second, x.mend(), 2);
+            oneOrTwo("15: one of 10, or 5 and " + second, x, second);
+        }
+    }
+
+    private static void oneOrTwo(String sentence, SeasonOfHours x, int second) {
+        if (second == 6) {
+            Seasons.slots(sentence, x, 1, 0, 2, 1);
+        } else {
+            Seasons.slots(sentence, x, 0, 0, NONE, NONE);
         }
     }
 
